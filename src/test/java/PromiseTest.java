@@ -195,6 +195,9 @@ public final class PromiseTest {
         due("zero byte", -13, readClauses(x, "one\0;"));
         due("tabulator", -13, readClauses(x, "one\t;"));
         due("joined words", -10, readClauses(x, "onea;"));
+        due("word of three", -10, readClauses(x, "abc;"));
+        due("word with z", -14, readClauses(x, "one az;"));
+        due("word of four", -10, readClauses(x, "aone;"));
         due("too early", -15, readClauses(x, "one a"));
         due("too early behind blanks", -17, readClauses(x, "one a  "));
         due("too early behind !", -15, readClauses(x, "one !"));
@@ -237,6 +240,9 @@ public final class PromiseTest {
         due("99", -14, readProof(x, "cut 99 1 a;"));
         due("100", -14, readProof(x, "cut 100 1 a;"));
         due("many digits", -14, readProof(x, "cut 4294967296 1 a;"));
+        due("word of three", -10, readProof(x, "abc 0 1 a;"));
+        due("word of four", -10, readProof(x, "acut 0 1 a;"));
+        due("90", -14, readProof(x, "cut 90 1 a;"));
         due("0 ahead", -16, readProof(x, "cut 0 01 a;"));
         due("00", -14, readProof(x, "cut 00 1 a;"));
         due("no number", -14, readProof(x, "cut a 1 a;"));
@@ -251,6 +257,8 @@ public final class PromiseTest {
         due("24 steps", 24, readProof(x, times("cut 0 1 a;", 24)));
         due("25 steps", -10 - 240, readProof(x, times("cut 0 1 a;", 25)));
         due("count(1), kept", 24, x.count(1));
+        due("24 steps of 16 clauses", 24, readProof(withClauses("one a;" + times("two !a;", 15)),
+            times("cut 0 15 a;", 23) + "cut 0 9 a;"));
         due("sixteenth line's number", 2, readProof(withClauses(times("one a;", 14) + "two !a;"),
             "cut 13 14 a;cut 0 14 a;"));
     }
@@ -267,6 +275,7 @@ public final class PromiseTest {
         due("wrong()", 1, x.wrong());
         due("count(2)", 3, x.count(2));
         due("line(5, 0)", BAD, x.line(5, 0));
+        due("line with no such letter", 0, readProof(x, "cut 0 3 h;"));
         due("not in J", 0, readProof(x, "cut 0 2 a;"));
         due("wrong()", 0, x.wrong());
         due("the other way about", 0, readProof(x, "cut 3 0 b;"));
@@ -310,9 +319,35 @@ public final class PromiseTest {
         due("line(-1, 0)", BAD, x.line(-1, 0));
         due("line(LOW, HIGH)", BAD, x.line(LOW, HIGH));
         due("line(NONE, 0)", BAD, x.line(NONE, 0));
-        readClauses(x, "one;two;two h;");
-        due("line(2, 0), once a step's", 128, x.line(2, 0));
-        due("line(2, 3), once a step's", NONE, x.line(2, 3));
+        readClauses(x, "one;two h;two !h;one h;");
+        due("line(2, 1), once a step's", 128, x.line(2, 1));
+        due("line(2, 2), once a step's", 2, x.line(2, 2));
+        for (int what = 3; what <= 5; what++) {
+            due("line(2, " + what + "), once a step's", NONE, x.line(2, what));
+        }
+        readClauses(x, "one h;two !h;");
+        readProof(x, "cut 0 1 h;");
+        due("line(2, 2), once a clause", 0, x.line(2, 2));
+        fullHouse();
+    }
+
+    /** As many clauses and steps as there may be. */
+    private static void fullHouse() {
+        SharedSense x = withProof(times("one a b;", 15) + "two !a !c;", times("cut 14 15 a;", 24));
+        due("line(39, 0)", 2, x.line(39, 0));
+        due("line(39, 1)", 4, x.line(39, 1));
+        due("line(39, 3)", 14, x.line(39, 3));
+        due("line(39, 4)", 15, x.line(39, 4));
+        due("line(40, 0)", BAD, x.line(40, 0));
+        due("holds(39, 2)", 1, x.holds(39, 2));
+        due("says(1, 39, 1)", 1, x.says(1, 39, 1));
+        due("labour(0, 39)", 2, x.labour(0, 39));
+        x = withProof(times("one a;", 15) + "two !a;", times("cut 14 15 a;", 24));
+        due("end() of 40 lines", 16, x.end());
+        x = withProof(times("one a b;", 14) + "two !a;two !b;",
+            times("cut 3 14 a;", 23).replaceFirst("cut 3", "cut 5") + "cut 38 15 b;");
+        due("end() is the last of 40 lines", 39, x.end());
+        due("used() of 40 lines", 1 << 3 | 1 << 14 | 1 << 15, x.used());
     }
 
     private static void sidesOf() {
@@ -322,6 +357,10 @@ public final class PromiseTest {
         for (int letter = 0; letter < 8; letter++) {
             due("side(" + letter + ")", want[letter], x.side(letter));
         }
+        readClauses(x, "one h; two h; two b;");
+        due("side(0), clauses anew", 0, x.side(0));
+        due("side(1), clauses anew", 2, x.side(1));
+        due("side(7), clauses anew", 3, x.side(7));
         due("side(-1)", BAD, x.side(-1));
         due("side(8)", BAD, x.side(8));
         due("side(HIGH)", BAD, x.side(HIGH));
@@ -353,9 +392,11 @@ public final class PromiseTest {
         due("worlds(2)", 64, x.worlds(2));
         due("worlds(3)", BAD, x.worlds(3));
         due("worlds(-1)", BAD, x.worlds(-1));
-        x = withClauses("one;");
+        readClauses(x, "one;");
         due("worlds(0) of the empty one", 0, x.worlds(0));
         due("worlds(1) of no clause", 256, x.worlds(1));
+        readClauses(x, "two a;");
+        due("worlds(0), clauses anew", 256, x.worlds(0));
     }
 
     private static void saysOf() {
@@ -386,12 +427,31 @@ public final class PromiseTest {
         due("says(1, 7, 1)", 1, x.says(1, 7, 1));
         due("says(1, 7, 3)", 0, x.says(1, 7, 3));
         due("says(2, 7, 0)", 1, x.says(2, 7, 0));
+        waysApart();
         due("says(-1, 0, 0)", BAD, x.says(-1, 0, 0));
         due("says(3, 0, 0)", BAD, x.says(3, 0, 0));
         due("says(0, 10, 0)", BAD, x.says(0, 10, 0));
         due("says(0, -1, 0)", BAD, x.says(0, -1, 0));
         due("says(0, 0, 256)", BAD, x.says(0, 0, 256));
         due("says(0, 0, -1)", BAD, x.says(0, 0, -1));
+    }
+
+    /** A cut at a shared letter, where each way says something else. */
+    private static void waysApart() {
+        SharedSense x = withProof("one a b; two !a c; two b; one c;", "cut 0 1 a;");
+        // Way 0: a or b, and all. Way 1: none, or a and not c. Way 2: where a all, elsewhere none.
+        int[][] want = {{0, 1, 1, 1, 0, 1, 1, 1}, {0, 1, 0, 1, 0, 0, 0, 0}, {0, 1, 0, 1, 0, 1, 0, 1}};
+        for (int way = 0; way < 3; way++) {
+            for (int world = 0; world < 8; world++) {
+                due("says(" + way + ", 4, " + world + ")", want[way][world], x.says(way, 4, world));
+            }
+        }
+        readClauses(x, "two a; one a; one b; two !a; one b !a;");
+        for (int i = 0; i < 5; i++) {
+            boolean two = i == 0 || i == 3;
+            due("says(2, " + i + ", 0), clauses anew", two ? 1 : 0, x.says(2, i, 0));
+            due("says(1, " + i + ", 1), clauses anew", i == 3 ? 1 : 0, x.says(1, i, 1));
+        }
     }
 
     private static void sayingOf() {
@@ -464,6 +524,7 @@ public final class PromiseTest {
         due("compare(4, 3)", 2, x.compare(4, 3));
         due("compare(4, 4)", 0, x.compare(4, 4));
         due("compare(5, 3), none within", 1, x.compare(5, 3));
+        due("compare(3, 5), none within", 2, x.compare(3, 5));
         x.tell(0, 1);
         due("compare(5, 3)", 3, x.compare(5, 3));
         due("compare(0, 3) of no END", STATE, x.compare(0, 3));
@@ -516,12 +577,22 @@ public final class PromiseTest {
         due("fewest(0), a alone", 1, x.fewest(0));
         due("fewest(0), two", 2, withClauses("one b c; two !b; two !c; one d; two !e;").fewest(0));
         due("fewest(1), two", 6, withClauses("one b c; two !b; two !c; one d; two !e;").fewest(1));
+        due("fewest(0), all", 8, withClauses("one a b c d e f g h;" + eachTurned()).fewest(0));
+        due("fewest(1), all", 255, withClauses("one a b c d e f g h;" + eachTurned()).fewest(1));
         due("fewest(0), none", NONE, withClauses("one a; two a;").fewest(0));
         due("fewest(1), none", NONE, withClauses("one a; two a;").fewest(1));
         due("fewest(0), no letter", 0, withClauses("one a; two;").fewest(0));
         due("fewest(1), no letter", 0, withClauses("one a; two;").fewest(1));
         readClauses(x, "one a; two a;");
         due("fewest(0), clauses anew", NONE, x.fewest(0));
+    }
+
+    private static String eachTurned() {
+        StringBuilder all = new StringBuilder();
+        for (char letter = 'a'; letter <= 'h'; letter++) {
+            all.append("two !").append(letter).append(';');
+        }
+        return all.toString();
     }
 
     private static void telling() {
@@ -621,6 +692,11 @@ public final class PromiseTest {
         due("needed(1), sixteen", 65535, withClauses(eachOfFour()).needed(1));
         readClauses(x, "one a;");
         due("needed(0), clauses anew", NONE, x.needed(0));
+        readClauses(x, "one !a; two g; two h;");
+        due("needed(0), world 192 alone", NONE, x.needed(0));
+        readClauses(x, "two h; two g; one !g; one !h g;");
+        due("needed(1), letters g and h", 0b0110, x.needed(1));
+        due("needed(0), world 0 alone", NONE, withClauses("one !a;").needed(0));
     }
 
     /** All sixteen clauses in four letters: each is needed. */
