@@ -697,6 +697,8 @@ public final class PromiseTest {
         readClauses(x, "two h; two g; one !g; one !h g;");
         due("needed(1), letters g and h", 0b0110, x.needed(1));
         due("needed(0), world 0 alone", NONE, withClauses("one !a;").needed(0));
+        due("needed(1), worlds above 63", 0b1111,
+            withClauses("one !a h; one a g h; two a !g h; two !h;").needed(1));
     }
 
     /** All sixteen clauses in four letters: each is needed. */
