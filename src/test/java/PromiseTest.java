@@ -1,15 +1,5 @@
 /** Runs told by hand, promise by promise, with the answers that the document asks for. */
-public final class PromiseTest {
-    private static final int BAD = SharedSense.BAD;
-    private static final int STATE = SharedSense.STATE;
-    private static final int FULL = SharedSense.FULL;
-    private static final int NONE = SharedSense.NONE;
-    private static final int LOW = Integer.MIN_VALUE;
-    private static final int HIGH = Integer.MAX_VALUE;
-
-    private static int promise;
-    private static int wrong;
-
+public final class PromiseTest extends Runs {
     public static void main(String[] args) {
         newObject();
         typing();
@@ -37,76 +27,11 @@ public final class PromiseTest {
         labours();
         counts();
         traces();
-        if (wrong != 0) {
-            System.out.println(wrong + " answers are not as due");
-            System.exit(1);
-        }
+        endWithWrongs();
     }
-
-    private static void due(String call, long want, long got) {
-        if (want != got) {
-            wrong++;
-            System.out.println("promise " + promise + ": " + call + " answered " + got + ", due is " + want);
-        }
-    }
-
-    private static void type(SharedSense x, String text) {
-        for (int i = 0; i < text.length(); i++) {
-            x.type(text.charAt(i), 1);
-        }
-    }
-
-    private static SharedSense withClauses(String text) {
-        SharedSense x = new SharedSense();
-        type(x, text);
-        if (x.clauses() < 0) {
-            throw new IllegalStateException(text);
-        }
-        return x;
-    }
-
-    private static SharedSense withProof(String clauses, String proof) {
-        SharedSense x = withClauses(clauses);
-        type(x, proof);
-        if (x.proof() < 0) {
-            throw new IllegalStateException(proof);
-        }
-        return x;
-    }
-
-    /** Types a text, asks clauses() and clears what is left. */
-    private static int readClauses(SharedSense x, String text) {
-        type(x, text);
-        int answer = x.clauses();
-        due("clear() behind clauses() of '" + text + "'", answer < 0 ? text.length() : 0, x.clear());
-        return answer;
-    }
-
-    private static int readProof(SharedSense x, String text) {
-        type(x, text);
-        int answer = x.proof();
-        due("clear() behind proof() of '" + text + "'", answer < 0 ? text.length() : 0, x.clear());
-        return answer;
-    }
-
-    private static String times(String text, int n) {
-        StringBuilder all = new StringBuilder();
-        for (int i = 0; i < n; i++) {
-            all.append(text);
-        }
-        return all.toString();
-    }
-
-    // Side one: a, a -> b and b -> d; side two: d -> c, not c, and b or c, which the proof does not use.
-    private static final String CHAIN = "one a; one !a b; one !b d; two !d c; two !c; two b c;";
-    private static final String CHAIN_PROOF = "cut 0 1 a; cut 6 2 b; cut 7 3 d; cut 8 4 c;";
-
-    // Letters a and b shared, c of one alone, d of two alone.
-    private static final String MIXED = "one a c; one b !c; two !a d; two !b; two !d !a b;";
-    private static final String MIXED_PROOF = "cut 0 1 c; cut 5 3 b; cut 2 4 d; cut 7 3 b; cut 6 8 a;";
 
     private static void newObject() {
-        promise = 1;
+        about("promise 1");
         SharedSense x = new SharedSense();
         for (int what = 0; what <= 5; what++) {
             due("count(" + what + ")", 0, x.count(what));
@@ -129,7 +54,7 @@ public final class PromiseTest {
     }
 
     private static void typing() {
-        promise = 2;
+        about("promise 2");
         SharedSense x = new SharedSense();
         due("type(0, 0)", BAD, x.type(0, 0));
         due("type(0, 9)", BAD, x.type(0, 9));
@@ -153,7 +78,7 @@ public final class PromiseTest {
     }
 
     private static void clearing() {
-        promise = 3;
+        about("promise 3");
         SharedSense x = withClauses("one a;");
         due("clear() of none", 0, x.clear());
         type(x, "two b");
@@ -163,7 +88,7 @@ public final class PromiseTest {
     }
 
     private static void clauseTexts() {
-        promise = 4;
+        about("promise 4");
         SharedSense x = new SharedSense();
         due("blanks", 0, readClauses(x, "   "));
         due("no blanks", 2, readClauses(x, "one!a b;two;"));
@@ -223,7 +148,7 @@ public final class PromiseTest {
     }
 
     private static void proofTexts() {
-        promise = 5;
+        about("promise 5");
         SharedSense x = new SharedSense();
         due("none of none", 0, readProof(x, ""));
         due("no line", -14, readProof(x, "cut 0 0 a;"));
@@ -264,7 +189,7 @@ public final class PromiseTest {
     }
 
     private static void wrongSteps() {
-        promise = 6;
+        about("promise 6");
         SharedSense x = withClauses("one a b; one !a !b; two a; two !b;");
         due("wrong() of no proof", NONE, x.wrong());
         due("right", 1, readProof(x, "cut 0 3 b;"));
@@ -288,7 +213,7 @@ public final class PromiseTest {
     }
 
     private static void ends() {
-        promise = 7;
+        about("promise 7");
         due("none", NONE, withClauses(CHAIN).end());
         due("last line", 9, withProof(CHAIN, CHAIN_PROOF).end());
         due("a clause", 1, withClauses("one a; two; one;").end());
@@ -298,7 +223,7 @@ public final class PromiseTest {
     }
 
     private static void linesOf() {
-        promise = 8;
+        about("promise 8");
         SharedSense x = withProof("one a b !c; two !a d !e;", "cut 0 1 a;");
         due("line(0, 0)", 3, x.line(0, 0));
         due("line(0, 1)", 4, x.line(0, 1));
@@ -351,7 +276,7 @@ public final class PromiseTest {
     }
 
     private static void sidesOf() {
-        promise = 9;
+        about("promise 9");
         SharedSense x = withClauses(MIXED);
         int[] want = {3, 3, 1, 2, 0, 0, 0, 0};
         for (int letter = 0; letter < 8; letter++) {
@@ -368,7 +293,7 @@ public final class PromiseTest {
     }
 
     private static void holding() {
-        promise = 10;
+        about("promise 10");
         SharedSense x = withProof("one a !h; two h; two;", "cut 1 0 h;");
         due("holds(0, 0)", 1, x.holds(0, 0));
         due("holds(0, 128)", 0, x.holds(0, 128));
@@ -385,7 +310,7 @@ public final class PromiseTest {
     }
 
     private static void worldsOf() {
-        promise = 11;
+        about("promise 11");
         SharedSense x = withClauses("one a b; two !a c; two h;");
         due("worlds(0)", 192, x.worlds(0));
         due("worlds(1)", 96, x.worlds(1));
@@ -400,7 +325,7 @@ public final class PromiseTest {
     }
 
     private static void saysOf() {
-        promise = 12;
+        about("promise 12");
         SharedSense x = withProof(MIXED, MIXED_PROOF);
         // Clause 0 of side one, "a c": of its letters a alone is shared.
         due("says(0, 0, 1)", 1, x.says(0, 0, 1));
@@ -455,7 +380,7 @@ public final class PromiseTest {
     }
 
     private static void sayingOf() {
-        promise = 13;
+        about("promise 13");
         // By each way a or b: of two alone remain not a and not b.
         SharedSense x = withProof(MIXED, MIXED_PROOF);
         for (int way = 0; way < 3; way++) {
@@ -481,7 +406,7 @@ public final class PromiseTest {
     }
 
     private static void betweenOf() {
-        promise = 14;
+        about("promise 14");
         SharedSense x = withProof(MIXED, MIXED_PROOF);
         for (int way = 0; way < 3; way++) {
             due("between(" + way + ")", 0, x.between(way));
@@ -494,7 +419,7 @@ public final class PromiseTest {
     }
 
     private static void looksOf() {
-        promise = 15;
+        about("promise 15");
         SharedSense x = withProof(MIXED, MIXED_PROOF);
         due("looks(0)", 3, x.looks(0));
         due("looks(1)", 3, x.looks(1));
@@ -518,7 +443,7 @@ public final class PromiseTest {
     }
 
     private static void compareOf() {
-        promise = 16;
+        about("promise 16");
         SharedSense x = withClauses("one a; one b; two !a; two !b;");
         due("compare(3, 4)", 1, x.compare(3, 4));
         due("compare(4, 3)", 2, x.compare(4, 3));
@@ -545,7 +470,7 @@ public final class PromiseTest {
     }
 
     private static void boundsOf() {
-        promise = 17;
+        about("promise 17");
         SharedSense x = withClauses("one a; one b; two !a; two !b; two c;");
         due("bounds(0)", 64, x.bounds(0));
         due("bounds(1)", 192, x.bounds(1));
@@ -565,7 +490,7 @@ public final class PromiseTest {
     }
 
     private static void fewestOf() {
-        promise = 18;
+        about("promise 18");
         SharedSense x = withClauses("one a; one b; two !a; two !b;");
         due("fewest(0)", 1, x.fewest(0));
         due("fewest(1), the least", 1, x.fewest(1));
@@ -587,16 +512,8 @@ public final class PromiseTest {
         due("fewest(0), clauses anew", NONE, x.fewest(0));
     }
 
-    private static String eachTurned() {
-        StringBuilder all = new StringBuilder();
-        for (char letter = 'a'; letter <= 'h'; letter++) {
-            all.append("two !").append(letter).append(';');
-        }
-        return all.toString();
-    }
-
     private static void telling() {
-        promise = 19;
+        about("promise 19");
         SharedSense x = new SharedSense();
         for (int world = 0; world < 256; world += 51) {
             due("tell(" + world + ", 0)", 0, x.tell(world, 0));
@@ -614,7 +531,7 @@ public final class PromiseTest {
     }
 
     private static void copying() {
-        promise = 20;
+        about("promise 20");
         SharedSense x = withProof(MIXED, MIXED_PROOF);
         due("copy(0, 0, 3)", 3, x.copy(0, 0, 3));
         due("tell(0, 1)", 0, x.tell(0, 1));
@@ -639,7 +556,7 @@ public final class PromiseTest {
     }
 
     private static void checking() {
-        promise = 21;
+        about("promise 21");
         SharedSense x = withProof(MIXED, MIXED_PROOF);
         due("check() of none", 2, x.check());
         x.copy(0, 0, 255);
@@ -661,7 +578,7 @@ public final class PromiseTest {
     }
 
     private static void usedOf() {
-        promise = 22;
+        about("promise 22");
         due("used()", 0b011111, withProof(CHAIN, CHAIN_PROOF).used());
         due("used() of no END", STATE, withClauses(CHAIN).used());
         due("used() of a clause", 0b100, withClauses("one a; two b; one; two;").used());
@@ -674,7 +591,7 @@ public final class PromiseTest {
     }
 
     private static void neededOf() {
-        promise = 23;
+        about("promise 23");
         SharedSense x = withProof(CHAIN, CHAIN_PROOF);
         due("needed(0), fewer than used", 4, x.needed(0));
         due("needed(1), fewer than used", 0b111100, x.needed(1));
@@ -701,21 +618,8 @@ public final class PromiseTest {
             withClauses("one !a h; one a g h; two a !g h; two !h;").needed(1));
     }
 
-    /** All sixteen clauses in four letters: each is needed. */
-    private static String eachOfFour() {
-        StringBuilder all = new StringBuilder();
-        for (int i = 0; i < 16; i++) {
-            all.append(i % 2 == 0 ? "one " : "two ");
-            for (int letter = 0; letter < 4; letter++) {
-                all.append((i >> letter & 1) == 0 ? "" : "!").append((char) ('a' + letter)).append(' ');
-            }
-            all.append(';');
-        }
-        return all.toString();
-    }
-
     private static void labours() {
-        promise = 24;
+        about("promise 24");
         SharedSense x = withProof(MIXED, MIXED_PROOF);
         due("labour(0, 4)", 3, x.labour(0, 4));
         due("labour(1, 4)", 3 + 256, x.labour(1, 4));
@@ -733,7 +637,7 @@ public final class PromiseTest {
     }
 
     private static void counts() {
-        promise = 25;
+        about("promise 25");
         SharedSense x = withProof(MIXED, MIXED_PROOF + "cut 0 0 h; cut 0 1 c;");
         x.tell(3, 1);
         type(x, "abc");
@@ -746,7 +650,7 @@ public final class PromiseTest {
     }
 
     private static void traces() {
-        promise = 26;
+        about("promise 26");
         SharedSense x = withClauses("one a;");
         int[] weights = {1, 11, 101, 1011};
         long sum = 0;
