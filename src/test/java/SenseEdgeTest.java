@@ -14,6 +14,7 @@ public final class SenseEdgeTest extends Runs {
         looksAtEdges();
         compareAtEdges();
         boundsAtEdges();
+        boundsLookAtShared();
         freeSayings();
         fewestLeast();
         fewestNone();
@@ -457,6 +458,26 @@ public final class SenseEdgeTest extends Runs {
         dueBounds("one " + allPlain() + ";one;two " + allPlain() + ";two;", 0, 256, 256);
         dueBounds("one " + allPlain() + ";one;" + eachTurned(), 0, 255, 255);
         dueBounds("one h;one g;two !h;two !g;", 64, 192, 2);
+    }
+
+    private static void boundsLookAtShared() {
+        about("A SAYING is a set of WORLDS that does not look at LETTERS that are not SHARED");
+        for (int k = 0; k < 8; k++) {
+            String own = "" + letter(k);
+            String shared = "" + letter((k + 3) % 8);
+            for (String sign : new String[] {" ", " !"}) {
+                dueBounds("one" + sign + own + ";", 256, 0, 0);
+                dueBounds("two" + sign + own + ";", 256, 0, 0);
+                dueBounds("one " + shared + ";one" + sign + own + ";two !" + shared + ";", 128, 128, 0);
+                dueBounds("one " + shared + ";two" + sign + own + ";two !" + shared + ";", 128, 128, 0);
+                dueBounds("one " + shared + sign + own + ";two !" + shared + ";", 256, 128, 0);
+                dueBounds("one " + shared + ";two !" + shared + sign + own + ";", 128, 0, 0);
+                SharedSense x = withClauses("one " + shared + ";one" + sign + own + ";two !" + shared + ";");
+                due("looks(3) of " + shared + ", beside" + sign + own, 1 << (k + 3) % 8, x.looks(3));
+                due("looks(4) of " + shared + ", beside" + sign + own, 1 << (k + 3) % 8, x.looks(4));
+                due("fewest(1) of " + shared + ", beside" + sign + own, 1 << (k + 3) % 8, x.fewest(1));
+            }
+        }
     }
 
     /** The sayings in a and b, each told by hand in an object of its own: how many are between. */
