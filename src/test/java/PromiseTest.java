@@ -27,6 +27,7 @@ public final class PromiseTest extends Runs {
         labours();
         counts();
         traces();
+        exampleOfReadme();
         endWithWrongs();
     }
 
@@ -666,5 +667,23 @@ public final class PromiseTest extends Runs {
         due("trace(), refused calls", sum, x.trace());
         readClauses(x, "two;");
         due("trace(), clauses anew", sum, x.trace());
+    }
+
+    private static void exampleOfReadme() {
+        about("README.md");
+        SharedSense x = new SharedSense();
+        for (char c : "one a; one !a b; two !b c; two !c;".toCharArray()) {
+            x.type(c, 1);
+        }
+        due("clauses()", 4, x.clauses());
+        for (char c : "cut 0 1 a; cut 4 2 b; cut 5 3 c;".toCharArray()) {
+            x.type(c, 1);
+        }
+        due("proof()", 3, x.proof());
+        due("end()", 6, x.end());
+        due("saying(0, 0)", 0xCCCCCCCCCCCCCCCCL, x.saying(0, 0));
+        due("between(0)", 0, x.between(0));
+        due("fewest(1)", 2, x.fewest(1));
+        due("used()", 15, x.used());
     }
 }
